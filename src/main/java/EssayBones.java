@@ -801,7 +801,6 @@ public final class EssayBones {
                 note(BARE_END, p);
             }
             inSentence = false;
-            lineEnded = false;
         }
     }
 
@@ -975,15 +974,14 @@ public final class EssayBones {
 
     /**
      * The cheapest tree and the cost of the next one, over spans that grow. A tree whose parts
-     * stand side by side is made of spans in one way only: a TAIL (a head and all behind it that
-     * hangs on it), a FRONT (the same ahead of it), and a GAP (a tail and a front that meet), so
-     * that two ways to fill a span are always two trees.
+     * stand side by side is made of spans in one way only: a SIDE (a head and all that hangs on it
+     * up to an end, on one side of it), and a GAP (two sides that meet, of two heads at its ends),
+     * so that two ways to fill a span are always two trees.
      */
     private static final class Forest {
-        private static final int TAIL = 0;
-        private static final int FRONT = GRID;
-        private static final int GAP = 2 * GRID;
-        private static final int WHOLE = 3 * GRID;
+        private static final int SIDE = 0;
+        private static final int GAP = GRID;
+        private static final int WHOLE = 2 * GRID;
         private static final int CELLS = WHOLE + 1;
         private static final int HALF = MOST_SENTENCES / 2;
         private static final int HEAD_BITS = 5;
@@ -1005,8 +1003,7 @@ public final class EssayBones {
                 return;
             }
             for (int i = 0; i < n; i++) {
-                setAlone(TAIL + i * MOST_SENTENCES + i);
-                setAlone(FRONT + i * MOST_SENTENCES + i);
+                setAlone(side(i, i));
             }
             for (int wide = 1; wide < n; wide++) {
                 for (int i = 0; i + wide < n; i++) {
@@ -1015,31 +1012,36 @@ public final class EssayBones {
             }
             setEmpty(WHOLE);
             for (int r = 0; r < n; r++) {
-                int front = FRONT + r;
-                int tail = TAIL + r * MOST_SENTENCES + n - 1;
-                offer(WHOLE, front, tail, rootCost[r], NONE, r);
+                offer(WHOLE, side(r, 0), side(r, n - 1), rootCost[r], NONE, r);
             }
         }
 
         private void fillSpan(int i, int j) {
-            int row = i * MOST_SENTENCES;
-            int gap = GAP + row + j;
+            int gap = gap(i, j);
             setEmpty(gap);
             for (int k = i; k < j; k++) {
-                offer(gap, TAIL + row + k, FRONT + (k + 1) * MOST_SENTENCES + j, 0, NONE, i);
+                offer(gap, side(i, k), side(j, k + 1), 0, NONE, i);
             }
-            int tail = TAIL + row + j;
-            setEmpty(tail);
+            int behind = side(i, j);
+            setEmpty(behind);
             for (int d = i + 1; d <= j; d++) {
-                int price = hangCost[row + d];
-                offer(tail, GAP + row + d, TAIL + d * MOST_SENTENCES + j, price, i, d);
+                int price = hangCost[i * MOST_SENTENCES + d];
+                offer(behind, gap(i, d), side(d, j), price, i, d);
             }
-            int front = FRONT + row + j;
-            setEmpty(front);
+            int ahead = side(j, i);
+            setEmpty(ahead);
             for (int d = i; d < j; d++) {
                 int price = hangCost[j * MOST_SENTENCES + d];
-                offer(front, FRONT + row + d, GAP + d * MOST_SENTENCES + j, price, j, d);
+                offer(ahead, side(d, i), gap(d, j), price, j, d);
             }
+        }
+
+        private static int side(int head, int end) {
+            return SIDE + head * MOST_SENTENCES + end;
+        }
+
+        private static int gap(int i, int j) {
+            return GAP + i * MOST_SENTENCES + j;
         }
 
         private void setAlone(int cell) {

@@ -11,6 +11,7 @@ public final class EssayTest {
         words();
         shared();
         manyKeys();
+        manyReads();
         Check.close();
     }
 
@@ -234,8 +235,8 @@ public final class EssayTest {
         }
     }
 
-    /** Hundreds of unlike words, each known again. */
-    private static void manyKeys() {
+    /** Sentences of 28 unlike words, half of which come again in the next one. */
+    static String unlikeWords() {
         StringBuilder text = new StringBuilder();
         for (int s = 0; s < 24; s++) {
             for (int k = 0; k < 28; k++) {
@@ -244,14 +245,31 @@ public final class EssayTest {
             }
             text.append('.');
         }
+        return text.toString();
+    }
+
+    /** Hundreds of unlike words, each known again. */
+    private static void manyKeys() {
         EssayBones x = new EssayBones();
-        Check.due("read", Check.read(x, text.toString()), 24);
+        Check.due("read", Check.read(x, unlikeWords()), 24);
         for (int i = 0; i < 24; i++) {
             Check.due("keys", x.sentence(i, 1), 28);
             for (int j = 0; j < 24; j++) {
                 int apart = Math.abs(i - j);
                 Check.due("shared " + i + " " + j, x.shared(i, j), apart > 2 ? 0 : 28 - 14 * apart);
             }
+        }
+    }
+
+    /** An essay leaves no words and keys behind for the next one. */
+    private static void manyReads() {
+        EssayBones x = new EssayBones();
+        for (int k = 0; k < 5; k++) {
+            Check.due("faulty", Check.read(x, "ab ".repeat(40).concat(".").repeat(24) + "-"), -1);
+            Check.due("read", Check.read(x, unlikeWords()), 24);
+            Check.due("keys of the last", x.sentence(23, 1), 28);
+            Check.due("shared by the last", x.shared(22, 23), 14);
+            Check.due("last word", x.word(23, 27, 2), 39);
         }
     }
 }

@@ -10,6 +10,7 @@ public final class TreeTest {
         bareAndOpen();
         twice();
         stale();
+        staleAmongMany();
         loose();
         marks();
         Check.close();
@@ -215,6 +216,20 @@ public final class TreeTest {
         Check.due("and loose", y.finding(0) & 16, 16);
         Check.due("the others", y.finding(1) & 8, 0);
         Check.due("the others", y.finding(2) & 8, 8);
+    }
+
+    /** With more than a hundred keys. */
+    private static void staleAmongMany() {
+        String[] all = EssayTest.unlikeWords().split("\\.");
+        String some = all[0].substring(0, 40) + all[8].substring(0, 40) + all[12].substring(72);
+        EssayBones x = new EssayBones();
+        Check.due("read", Check.read(x, all[0] + "." + all[4] + "." + all[8] + "." + all[12] + "."
+                + some + "." + some + "new." + all[13] + "." + all[12] + "." + all[11] + "."), 9);
+        Check.due("keys", x.sentence(4, 1), 30);
+        int[] want = {0, 0, 0, 0, 8, 0, 0, 8, 0};
+        for (int i = 0; i < want.length; i++) {
+            Check.due("stale " + i, x.finding(i) & 8, want[i]);
+        }
     }
 
     private static void loose() {
