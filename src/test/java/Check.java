@@ -4,15 +4,21 @@ import java.nio.charset.StandardCharsets;
 final class Check {
     private static int wrong = 0;
     private static int asked = 0;
+    private static String quoted = "";
 
     private Check() {
+    }
+
+    /** The sentence of the document that the next answers belong to. */
+    static void says(String sentence) {
+        quoted = "[" + sentence + "] ";
     }
 
     static void due(String what, long got, long want) {
         asked++;
         if (got != want) {
             wrong++;
-            System.out.println(what + " answered " + got + ", due is " + want);
+            System.out.println(quoted + what + " answered " + got + ", due is " + want);
         }
     }
 
@@ -75,6 +81,28 @@ final class Check {
         due("sign 3", sign(x, "say", 3), 3);
         due("sign 4", sign(x, "so", 4), 4);
         return x;
+    }
+
+    /** The text is read without a fault, as so many sentences. */
+    static EssayBones essay(EssayBones x, String text, int sentences) {
+        due("read " + text, read(x, text), sentences);
+        due("fault of " + text, x.fault(0), 0);
+        return x;
+    }
+
+    /** A read that finds this fault. */
+    static void faulty(EssayBones x, String text, int kind, int place) {
+        String name = text.length() > 60 ? text.substring(0, 60) + ".." : text;
+        due("read " + name, read(x, text), EssayBones.NONE);
+        due("kind of the fault of " + name, x.fault(0), kind);
+        due("place of the fault of " + name, x.fault(1), place);
+    }
+
+    /** WEIGHTS NEAR, WORDS, SIGNS, PARAS. */
+    static void weights(EssayBones x, int... all) {
+        for (int i = 0; i < all.length; i++) {
+            isTrue("weight " + i + " is " + all[i], x.weight(i, all[i]) >= 0);
+        }
     }
 
     /** Heads of all sentences, as sentence(i, 4) tells them. */

@@ -18,7 +18,7 @@ public final class OrdersTest {
     }
 
     /** Only shared words weigh: each hangs on the first one that it shares a word with. */
-    private static EssayBones byWords(String text) {
+    static EssayBones byWords(String text) {
         EssayBones x = Check.withSigns();
         x.weight(0, 0);
         x.weight(1, 50);
@@ -29,7 +29,7 @@ public final class OrdersTest {
     }
 
     /** One with so many others that hang on it. */
-    private static EssayBones star(int many) {
+    static EssayBones star(int many) {
         StringBuilder text = new StringBuilder();
         for (int k = 1; k <= many; k++) {
             text.append('k').append(k).append(' ');
