@@ -13,6 +13,8 @@ public final class AskEdgesTest {
         wordsOfShorterEssay();
         sharedBothSides();
         sharedMost();
+        keysAlike();
+        askedFirst();
         countBothSides();
         countRoot();
         countAfterRefused();
@@ -208,6 +210,94 @@ public final class AskEdgesTest {
             Check.due("KEYS", x.sentence(i, 1), 40);
             Check.due("with the first", x.shared(0, i), i == 0 ? 40 : 0);
             Check.due("with the last", x.shared(i, 23), i == 23 ? 40 : 0);
+        }
+        // The first twelve again, last words first.
+        text.setLength(12 * 120);
+        StringBuilder again = new StringBuilder();
+        for (String word : text.substring(0, 12 * 120).split("[ .]")) {
+            again.insert(0, word + (again.length() % 120 == 0 ? "." : " "));
+        }
+        x = Check.essay(new EssayBones(), text.append(again).toString(), 24);
+        for (int i = 0; i < 24; i++) {
+            Check.due("KEYS", x.sentence(i, 1), 40);
+            Check.due("with the first", x.shared(0, i), i == 0 || i == 23 ? 40 : 0);
+            Check.due("with the seventh", x.shared(i, 6), i == 6 || i == 17 ? 40 : 0);
+        }
+    }
+
+    private static void keysAlike() {
+        Check.says("its FOLDED words, each once");
+        // Words that are unlike in one byte alone, first, inside or last, or by one byte more.
+        String[] rests = {"", "a", "rain", "0123456789", "''"};
+        for (String rest : rests) {
+            StringBuilder first = new StringBuilder();
+            StringBuilder last = new StringBuilder();
+            StringBuilder inside = new StringBuilder();
+            for (char c : "abcdefghijklmnopqrstuvwxyz0123456789'".toCharArray()) {
+                first.append(c).append(rest).append(' ');
+                last.append(rest).append(c).append(' ');
+                inside.append('z').append(c).append(rest).append(' ');
+            }
+            EssayBones x = Check.essay(new EssayBones(), first + "." + last + "." + inside + ".", 3);
+            for (int i = 0; i < 3; i++) {
+                Check.due("37 unlike words", x.sentence(i, 1), 37);
+            }
+            Check.essay(x, first.append(". ").append(first).toString(), 2);
+            Check.due("37 that both have", x.shared(0, 1), 37);
+        }
+        StringBuilder longer = new StringBuilder();
+        for (int length = 1; length <= 16; length++) {
+            longer.append("a".repeat(length)).append(' ');
+        }
+        EssayBones y = Check.essay(new EssayBones(), longer + longer.toString() + ".", 1);
+        Check.due("16 unlike ones", y.sentence(0, 1), 16);
+    }
+
+    /** Each call as the first one behind a change, and behind tree(). */
+    private static void askedFirst() {
+        Check.says("(All by the tables as they are.)");
+        for (int change = 0; change < 7; change++) {
+            for (int call = 0; call < 14; call++) {
+                EssayBones x = changed(change);
+                EssayBones y = changed(change);
+                y.tree();
+                Check.due("change " + change + ", call " + call, asked(x, call), asked(y, call));
+            }
+        }
+    }
+
+    private static EssayBones changed(int change) {
+        EssayBones x = Check.withSigns();
+        Check.essay(x, "Rain helps all. Because rains help rain. But roads rain.\n\nRoads help. Say all roads.", 5);
+        x.tree();
+        switch (change) {
+            case 0: Check.stop(x, "rain"); break;
+            case 1: Check.sign(x, "but", 4); break;
+            case 2: Check.ending(x, "s"); break;
+            case 3: x.weight(0, 0); break;
+            case 4: Check.essay(x, "So all. But roads rain.\n\nRain roads.", 3); break;
+            case 5: x.move(2, 0); break;
+            default: x.arrange(0);
+        }
+        return x;
+    }
+
+    private static int asked(EssayBones x, int call) {
+        switch (call) {
+            case 0: return x.sentence(1, 1);
+            case 1: return x.sentence(1, 2);
+            case 2: return x.sentence(1, 4);
+            case 3: return x.sentence(0, 6);
+            case 4: return x.shared(1, 2);
+            case 5: return x.cost(1, 2);
+            case 6: return x.next();
+            case 7: return x.finding(1);
+            case 8: return x.marks(1, 7, 49, 50, 100);
+            case 9: return x.order(0);
+            case 10: return x.stands(0);
+            case 11: return x.arrange(0);
+            case 12: return x.move(2, 0);
+            default: return x.count(7);
         }
     }
 

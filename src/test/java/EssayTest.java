@@ -254,7 +254,7 @@ public final class EssayTest {
         Check.due("read", Check.read(x, unlikeWords()), 24);
         for (int i = 0; i < 24; i++) {
             Check.due("keys", x.sentence(i, 1), 28);
-            for (int j = 0; j < 24; j++) {
+            for (int j = 0; j < 24; j += 3) {
                 int apart = Math.abs(i - j);
                 Check.due("shared " + i + " " + j, x.shared(i, j), apart > 2 ? 0 : 28 - 14 * apart);
             }
@@ -264,12 +264,14 @@ public final class EssayTest {
     /** An essay leaves no words and keys behind for the next one. */
     private static void manyReads() {
         EssayBones x = new EssayBones();
-        for (int k = 0; k < 5; k++) {
-            Check.due("faulty", Check.read(x, "ab ".repeat(40).concat(".").repeat(24) + "-"), -1);
-            Check.due("read", Check.read(x, unlikeWords()), 24);
+        String faulty = "ab ".repeat(40).concat(".").repeat(24) + "-";
+        Check.due("faulty", Check.read(x, faulty), -1);
+        Check.due("read", Check.read(x, unlikeWords()), 24);
+        for (int k = 0; k < 2; k++) {
             Check.due("keys of the last", x.sentence(23, 1), 28);
             Check.due("shared by the last", x.shared(22, 23), 14);
             Check.due("last word", x.word(23, 27, 2), 39);
+            Check.due("faulty", Check.read(x, k == 0 ? faulty : "-"), -1);
         }
     }
 }

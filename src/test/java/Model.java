@@ -410,7 +410,7 @@ final class Model {
         return found;
     }
 
-    private static boolean isTree(int[] row) {
+    static boolean isTree(int[] row) {
         int n = row.length;
         int roots = 0;
         boolean[][] in = new boolean[n][n];

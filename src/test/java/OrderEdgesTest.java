@@ -17,6 +17,7 @@ public final class OrderEdgesTest {
         orderedOfLatestThatTold();
         orderedAsNumberedThen();
         standsBothSides();
+        standsAnew();
         standsSums();
         arrangeRange();
         arrangeNone();
@@ -36,7 +37,7 @@ public final class OrderEdgesTest {
     }
 
     private static void orderBothSides() {
-        Check.says("The cheapest ORDER of HEAD h: what it costs; RANGE.");
+        Check.says("The cheapest ORDER of HEAD h: what it costs");
         EssayBones x = new EssayBones();
         Check.due("no essay", x.order(0), -2);
         Check.essay(x, "a. a. a.", 3);
@@ -110,6 +111,7 @@ public final class OrderEdgesTest {
             Check.due("stands tells a cost still", x.stands(0), many * (many + 1) / 2);
             Check.due("one on which nothing hangs", x.order(many), 0);
             Check.row("its row", x, many);
+            Check.due("arrange is no order()", x.arrange(3), 0);
             Check.due("order", x.order(0), -1);
             Check.row("the row stays", x, many);
         }
@@ -150,13 +152,24 @@ public final class OrderEdgesTest {
         Check.row("the small ones first", x, 0, 6, 4, 1);
         Check.due("arrange", x.arrange(0), 6);
         Check.were("arranged", x, 0, 6, 4, 5, 1, 2, 3);
-        // One at the end of its PART is near when the PART is ahead.
         EssayBones y = OrdersTest.byWords("a. m. n. so a m n.");
         y.weight(2, 50);
         Check.heads("all on the last", y, 3, 3, 3, -1);
         Check.due("as it stands", y.stands(3), 6);
         Check.due("two ahead, one behind", y.order(3), 4);
         Check.row("of those the first by number", y, 0, 1, 3, 2);
+        // 1 is the last of its PART: near when that is ahead, a step farther when it is behind.
+        EssayBones z = OrdersTest.byWords("x. x y. so y z. z.");
+        z.weight(2, 50);
+        Check.heads("the last of its PART", z, 1, 2, -1, 2);
+        Check.due("ahead", z.order(2), 2);
+        Check.row("ahead", z, 1, 2, 3);
+        Check.due("0 is to be behind", z.pair(2, 0), 1);
+        Check.due("behind", z.order(2), 1 + 2);
+        Check.row("behind", z, 3, 2, 1);
+        Check.due("as 3 is", z.pair(2, 3), 2);
+        Check.due("both behind", z.order(2), 1 + 3);
+        Check.row("both behind", z, 2, 3, 1);
     }
 
     private static void behindTheHead() {
@@ -169,6 +182,16 @@ public final class OrderEdgesTest {
             Check.due("KIND " + kind, x.order(0), behind ? 6 : 4);
             int[] free = {1, 0, 2, 3};
             Check.row("KIND " + kind, x, behind ? new int[] {0, 1, 2, 3} : free);
+        }
+        for (int kind = 1; kind <= 3; kind++) {
+            EssayBones x = OrdersTest.byWords(starts[kind] + "a. b. so a b.");
+            x.weight(2, 50);
+            Check.heads("they stand ahead", x, 2, 2, -1);
+            Check.due("as it stands", x.stands(2), 3);
+            Check.due("one is to be behind", x.order(2), 2);
+            Check.row("one is to be behind", x, 1, 2, 0);
+            Check.due("arrange", x.arrange(2), 3);
+            Check.were("arranged", x, 1, 2, 0);
         }
         // The head itself and what hangs farther down are bound by nothing.
         EssayBones y = OrdersTest.byWords("but a b. a m. but m. b.");
@@ -260,6 +283,10 @@ public final class OrderEdgesTest {
         Check.row("as it was", x, 2, 0, 1);
         Check.due("a cost of 0 is a cost", x.order(1), 0);
         Check.row("told", x, 1);
+        Check.due("NONE told none", x.order(0), -1);
+        Check.row("as it was", x, 1);
+        Check.due("NONE told none", x.arrange(0), -1);
+        Check.row("as it was", x, 1);
     }
 
     private static void orderedAsNumberedThen() {
@@ -287,7 +314,7 @@ public final class OrderEdgesTest {
     }
 
     private static void standsBothSides() {
-        Check.says("What it costs as it stands; RANGE.");
+        Check.says("What it costs as it stands: the sum of how far h is from each that hangs on it; RANGE.");
         EssayBones x = new EssayBones();
         Check.due("no essay", x.stands(0), -2);
         Check.essay(x, "a. a.", 2);
@@ -301,6 +328,16 @@ public final class OrderEdgesTest {
         Check.essay(x, "a.".repeat(24), 24);
         Check.due("the last of the most", x.stands(23), 0);
         Check.due("none behind", x.stands(24), -2);
+    }
+
+    private static void standsAnew() {
+        Check.says("What it costs as it stands");
+        EssayBones x = Check.essay(new EssayBones(), "a. a. a.", 3);
+        Check.due("asked first", x.stands(0), 1);
+        Check.due("NEAR", x.weight(0, 0), 2);
+        Check.due("by the WEIGHTS as they are", x.stands(0), 3);
+        Check.essay(x, "a. a. a. a.", 4);
+        Check.due("another essay", x.stands(0), 6);
     }
 
     private static void standsSums() {
@@ -374,6 +411,8 @@ public final class OrderEdgesTest {
         Check.due("words go along", y.word(1, 1, 0), 'b');
         Check.due("KINDS go along", y.sentence(3, 2), 0);
         Check.due("KEYS go along", y.shared(2, 3), 1);
+        Check.heads("what hangs on what is found anew", y, -1, 0, 0, 2);
+        Check.due("as it stands now", y.stands(0), 1 + 2);
     }
 
     private static void arrangePartAlone() {
@@ -435,7 +474,7 @@ public final class OrderEdgesTest {
     }
 
     private static void moveOfItsOwn() {
-        Check.says("SENTENCE e, that isn't of it");
+        Check.says("that isn't of it");
         EssayBones x = chain();
         for (int d = 0; d < 5; d++) {
             for (int e = d; e < 5; e++) {
@@ -499,6 +538,13 @@ public final class OrderEdgesTest {
         EssayBones w = backwards();
         Check.due("one, a step", w.move(0, 2), 2);
         Check.were("one, a step", w, 1, 0, 2, 3, 4);
+        EssayBones v = OrdersTest.byWords("a. a b. b.");
+        Check.heads("a chain", v, -1, 0, 1);
+        Check.due("the last to the front", v.move(2, 0), 3);
+        Check.were("the last to the front", v, 2, 0, 1);
+        Check.heads("what hangs on what is found anew", v, -1, 2, 0);
+        Check.due("as it stands now", v.stands(0), 2);
+        Check.due("its PART", v.sentence(2, 6), 2);
     }
 
     private static void moveMost() {

@@ -51,7 +51,7 @@ public final class PairEdgesTest {
     }
 
     private static void theSame() {
-        Check.says("RANGE: the same");
+        Check.says("RANGE: no such, the same");
         EssayBones x = Check.essay(new EssayBones(), "a.".repeat(24), 24);
         for (int i = 0; i < 24; i++) {
             Check.due("the same", x.pair(i, i), -2);
@@ -62,7 +62,7 @@ public final class PairEdgesTest {
     }
 
     private static void otherWayRound() {
-        Check.says("RANGE: b must be ahead of a");
+        Check.says("b must be ahead of a");
         EssayBones x = Check.essay(new EssayBones(), "a. b. c.", 3);
         Check.due("a PAIR", x.pair(0, 1), 1);
         Check.due("the other way round", x.pair(1, 0), -2);

@@ -117,7 +117,7 @@ public final class TablesEdgesTest {
     }
 
     private static void kinds() {
-        Check.says("a SIGN of a KIND 1 .. 4; RANGE: no word, KIND");
+        Check.says("RANGE: no word, KIND; FULL.");
         for (int kind = -3; kind <= 7; kind++) {
             EssayBones x = Check.essay(new EssayBones(), "but we.", 1);
             boolean good = kind >= 1 && kind <= 4;
@@ -187,7 +187,7 @@ public final class TablesEdgesTest {
     }
 
     private static void endingTwice() {
-        Check.says("an ENDING, or none any more: how many there are");
+        Check.says("or none any more: how many there are. RANGE; FULL.");
         EssayBones x = Check.essay(new EssayBones(), "rains rain rained.", 1);
         Check.due("s", Check.ending(x, "s"), 1);
         Check.due("KEYS", x.sentence(0, 1), 2);

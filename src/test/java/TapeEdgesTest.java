@@ -95,7 +95,7 @@ public final class TapeEdgesTest {
     }
 
     private static void refusedFeedLeavesBytes() {
-        Check.says("Twenty bytes come behind THE TAPE: FULL");
+        Check.says("Twenty bytes come behind THE TAPE");
         EssayBones x = filled(2978);
         Check.due("end", x.end(2960), 2960);
         Check.due("a sentence at the end", x.feed(BLANKS, BLANKS, BLANKS, BLANKS, 0x202e6162), 2980);

@@ -125,7 +125,7 @@ public final class TextEdgesTest {
     }
 
     private static void fortyWords() {
-        Check.says("3 the 41st word of a SENTENCE (at its first byte)");
+        Check.says("3 the 41st word of a SENTENCE");
         String forty = "ab ".repeat(39) + "yz";
         EssayBones x = Check.essay(new EssayBones(), forty + ".", 1);
         Check.due("words", x.sentence(0, 0), 40);
@@ -178,11 +178,17 @@ public final class TextEdgesTest {
             Check.due("the last word", x.word(s, 39, 0), 'a' + s);
             Check.due("the last word", x.word(s, 39, 1), 'n');
         }
+        // With 960 words ahead, one more is too many, whichever way.
+        Check.faulty(x, text + "a", 4, 24 * 120);
+        Check.due("the last word", x.word(23, 39, 1), 'n');
+        EssayBones y = Check.essay(new EssayBones(), text.toString(), 24);
+        Check.faulty(y, text.substring(0, 24 * 120 - 1) + " a.", 3, 24 * 120);
+        Check.due("the last word", y.word(23, 39, 1), 'n');
         // 176 words of 16 bytes: as many as THE TAPE holds.
         String line = (SIXTEEN + " ").repeat(8);
-        Check.essay(x, (line.substring(0, 135) + ".").repeat(22), 22);
-        Check.due("the last word", x.word(21, 7, 15), 'p');
-        Check.due("each once", x.sentence(21, 1), 1);
+        EssayBones z = Check.essay(new EssayBones(), (line.substring(0, 135) + ".").repeat(22), 22);
+        Check.due("the last word", z.word(21, 7, 15), 'p');
+        Check.due("each once", z.sentence(21, 1), 1);
     }
 
     private static void endWithoutWord() {
@@ -216,8 +222,8 @@ public final class TextEdgesTest {
         Check.due("no essay", x.count(0), 0);
         Check.faulty(x, "a.b" + " ".repeat(2997), 6, 3000);
         Check.essay(x, "a.", 1);
-        Check.essay(x, "a." + " ".repeat(2998), 1);
-        Check.essay(x, " ".repeat(2998) + "a.", 1);
+        EssayBones y = Check.essay(new EssayBones(), "a." + " ".repeat(2998), 1);
+        Check.essay(y, " ".repeat(2998) + "a.", 1);
     }
 
     private static void firstFromTheLeft() {

@@ -17,6 +17,8 @@ public final class TreeEdgesTest {
         firstRow();
         nextNone();
         nextOfTwo();
+        nextOfThree();
+        everyRow();
         findingBothSides();
         bareByKind();
         bareByWhatHangs();
@@ -153,7 +155,7 @@ public final class TreeEdgesTest {
     }
 
     private static void treeDearest() {
-        Check.says("WEIGHTS 0 .. 50: What the TREE costs");
+        Check.says("WEIGHTS 0 .. 50");
         StringBuilder text = new StringBuilder();
         for (int k = 0; k < 24; k++) {
             text.append("but ").append((char) ('a' + k)).append(".\n\n");
@@ -247,6 +249,80 @@ public final class TreeEdgesTest {
         EssayBones w = weighed("a." + "but a.".repeat(23), 24, 1, 0, 50, 0);
         Check.due("one chain", w.tree(), 0);
         Check.due("one a step farther", w.next(), 1);
+    }
+
+    private static void nextOfThree() {
+        Check.says("The least cost of another TREE");
+        EssayBones x = weighed("a. because a. because a.", 3, 2, 3, 10, 5);
+        Check.due("a chain", x.tree(), 9 + 9);
+        Check.due("both on the first", x.next(), 9 + 9 + 2);
+        Check.weights(x, 50);
+        Check.due("1 as the ROOT", x.next(), 9 + 9 + 10);
+        Check.weights(x, 50, 3, 50);
+        Check.due("1 as the ROOT", x.next(), 9 + 9 + 50);
+        Check.weights(x, 50, 3, 0);
+        Check.due("it costs nothing more", x.next(), 9 + 9);
+        EssayBones y = weighed("a. a. because b.\n\nbut b. so c.", 5, 2, 3, 10, 5);
+        // The CONCLUSION as the ROOT, on which 1 hangs; or on 3, in a chain, for SIGNS.
+        Check.due("the last as the ROOT", y.tree(), 9 + (4 + 12 + 5) + 12 + (9 + 5));
+        Check.heads("the last as the ROOT", y, 1, 4, 1, 2, -1);
+        Check.due("a chain", y.next(), 9 + 12 + (9 + 5) + (12 + 10));
+    }
+
+    private static void everyRow() {
+        Check.says("The least cost of another TREE");
+        String[] bodies = {"a b", "b c", "a", "c d a", "x"};
+        int[][] weights = {{2, 3, 10, 5}, {0, 7, 1, 0}, {1, 0, 2, 3}, {50, 50, 50, 50}};
+        for (int k = 0; k < 125; k++) {
+            StringBuilder text = new StringBuilder();
+            for (int s = 0; s < 5; s++) {
+                int kind = (k / 25 * (s + 1) + k / 5 * s + k * (s * s + 1)) % 5;
+                text.append(kind == 0 ? "" : STARTS[kind] + " ").append(bodies[(s * (k + 1) + k / 7) % 5]);
+                text.append((s + k) % 4 == 0 ? ".\n\n" : ". ");
+            }
+            for (int n = 1; n <= 5; n++) {
+                int end = -1;
+                for (int s = 0; s < n; s++) {
+                    end = text.indexOf(".", end + 1);
+                }
+                checkEveryRow(weighed(text.substring(0, end + 1), n, weights[k % 4]), n);
+            }
+        }
+    }
+
+    /** All rows of heads that are TREES, tried one by one. */
+    private static void checkEveryRow(EssayBones x, int n) {
+        int[] roots = new int[n];
+        int[][] costs = new int[n][n];
+        for (int h = 0; h < n; h++) {
+            int kind = x.sentence(h, 2);
+            roots[h] = kind >= 1 && kind <= 3 ? x.count(12) : 0;
+            for (int d = 0; d < n; d++) {
+                costs[h][d] = x.cost(h, d);
+            }
+        }
+        int least = Integer.MAX_VALUE;
+        int second = Integer.MAX_VALUE;
+        int[] first = new int[n];
+        int[] row = new int[n];
+        // From the first row on, number by number, so that the first of the cheapest is kept.
+        for (int all = (int) Math.pow(n + 1, n), at = 0; at < all; at++) {
+            int cost = 0;
+            for (int d = n - 1, rest = at; d >= 0; d--, rest /= n + 1) {
+                row[d] = rest % (n + 1) - 1;
+                cost += row[d] < 0 ? roots[d] : row[d] == d ? 0 : costs[row[d]][d];
+            }
+            if (Model.isTree(row)) {
+                second = Math.min(second, Math.max(least, cost));
+                if (cost < least) {
+                    least = cost;
+                    first = row.clone();
+                }
+            }
+        }
+        Check.due("the least", x.tree(), least);
+        Check.due("the next", x.next(), n == 1 ? -1 : second);
+        Check.heads("the first row", x, first);
     }
 
     private static void findingBothSides() {
@@ -399,6 +475,7 @@ public final class TreeEdgesTest {
         Check.due("no STOP any more", Check.stop(x, "the"), 0);
         Check.due("it has one now, a new one", x.finding(2) & 8, 0);
         Check.due("both are old but one", x.finding(8) & 8, 0);
+        staleAmongMost();
         // The KEYS of one that comes later don't count.
         EssayBones y = weighed("a. a b. b.", 3, 2, 3, 10, 5);
         Check.due("the first", y.finding(0) & 8, 0);
@@ -407,6 +484,32 @@ public final class TreeEdgesTest {
         Check.due("move", y.move(2, 0) > 0 ? 1 : 0, 1);
         Check.due("it is the first now", y.finding(0) & 8, 0);
         Check.due("it is told earlier now", y.finding(2) & 8, 8);
+    }
+
+    /** 12 with 40 unlike KEYS each, then 12 that have them again, and one of those a new one. */
+    private static void staleAmongMost() {
+        StringBuilder text = new StringBuilder();
+        for (int k = 0; k < 960; k++) {
+            int w = k == 959 ? 480 : k % 480;
+            text.append((char) ('a' + w / 37)).append("abcdefghijklmnopqrstuvwxyz0123456789'".charAt(w % 37));
+            text.append(k % 40 == 39 ? '.' : ' ');
+        }
+        EssayBones x = Check.essay(new EssayBones(), text.toString(), 24);
+        for (int i = 0; i < 24; i++) {
+            Check.due("STALE " + i, x.finding(i) & 8, i >= 12 && i < 23 ? 8 : 0);
+        }
+        // 23 with 40 unlike KEYS each, and a last one with KEYS of the first and of the last ahead of it.
+        StringBuilder more = new StringBuilder();
+        for (int k = 0; k < 960; k++) {
+            int w = k < 920 ? k : k % 2 == 0 ? k - 920 : k - 41;
+            more.append((char) ('a' + w / 37)).append("abcdefghijklmnopqrstuvwxyz0123456789'".charAt(w % 37));
+            more.append(k % 40 == 39 ? '.' : ' ');
+        }
+        Check.essay(x, more.toString(), 24);
+        for (int i = 0; i < 24; i++) {
+            Check.due("STALE " + i, x.finding(i) & 8, i == 23 ? 8 : 0);
+        }
+        Check.due("KEYS", x.sentence(23, 1), 40);
     }
 
     private static void loose() {
@@ -427,7 +530,7 @@ public final class TreeEdgesTest {
     }
 
     private static void marksBothSides() {
-        Check.says("Points for BARE, OPEN, TWICE, STALE, LOOSE (-100 .. 100 each): RANGE");
+        Check.says("(-100 .. 100 each)");
         EssayBones x = Check.essay(new EssayBones(), "a.", 1);
         for (int k = 0; k < 5; k++) {
             for (int points : new int[] {-101, -100, -99, 99, 100, 101, -356, 356, Integer.MIN_VALUE, Integer.MAX_VALUE}) {
