@@ -1,6 +1,6 @@
 /**
- * The document from its first promise to its last, a method each. All but the longest texts are
- * about one essay, whose costs, tree and findings were worked out by hand from the document:
+ * The document from its first promise to its last, a method each. Most of it is about one essay,
+ * whose costs, tree and findings were worked out by hand from the document:
  *
  * <pre>
  *      SENTENCE            KIND        KEYS               hangs on, at a cost
